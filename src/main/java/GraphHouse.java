@@ -70,7 +70,6 @@ public final class GraphHouse {
     public int run() throws IllegalArgumentException, ArithmeticException, IllegalStateException {
         forgetLatestRun();
         tape.readTokens();
-        tape.clear();
         if (off) {
             throw new IllegalStateException();
         }
@@ -79,7 +78,15 @@ public final class GraphHouse {
             faultPlace = statement.faultPlace;
             throw new IllegalArgumentException();
         }
-        if (!carryOut()) {
+        startStatement();
+        error = doer.perform();
+        errorClause = error == 0 ? 0 : doer.clauseNumber;
+        if (error == 0 && !underWay && !hasRoom()) {
+            error = ERROR_LOG;
+            errorClause = statement.clauseCount;
+        }
+        if (error != 0) {
+            live.copyFrom(before);
             throw new ArithmeticException();
         }
         if (!underWay && !writeTransaction()) {
@@ -290,24 +297,12 @@ public final class GraphHouse {
         return returned && row >= 0 && row < machine.now.rows && column >= 0 && column < columns();
     }
 
-    /** Does the statement that was read, or leaves all as it was: whether no ERROR came up. */
-    private boolean carryOut() {
+    private void startStatement() {
         if (!underWay) {
             live.changes = 0;
         }
         before.copyFrom(live);
         live.forgetGone();
-        if (!doer.perform()) {
-            error = machine.error;
-            errorClause = doer.clauseNumber;
-        } else if (!underWay && !hasRoom()) {
-            error = ERROR_LOG;
-            errorClause = statement.clauseCount;
-        }
-        if (error != 0) {
-            live.copyFrom(before);
-        }
-        return error == 0;
     }
 
     private boolean hasRoom() {
@@ -440,7 +435,7 @@ public final class GraphHouse {
         int sizeAt(int cell) {
             int size = 0;
             for (int i = 0; i < LONGEST_TEXT; i++) {
-                if (characterAt(cell, i) != 0) {
+                if ((words[cell * 4 + 1 + i / 8] >>> (56 - 8 * (i % 8)) & 255) != 0) {
                     size++;
                 }
             }
@@ -478,7 +473,8 @@ public final class GraphHouse {
         private int length;
         final Token[] tokens = new Token[TAPE + 1];
         final int[] places = new int[TAPE + 1];
-        /* NAMES and SORTS lie there as texts do, and so are told apart by their first long. */
+        /* NAMES and SORTS, as the first long of a text is, and NUMBERS. */
+        final long[] words = new long[TAPE + 1];
         final Cells values = new Cells(TAPE + 1);
         int count;
 
@@ -499,11 +495,7 @@ public final class GraphHouse {
             return true;
         }
 
-        void clear() {
-            length = 0;
-        }
-
-        /** Reads up to the first characters that are no TOKEN; the last one read is END always. */
+        /** Empties the tape, read up to the first characters that are no TOKEN; the last TOKEN is END always. */
         void readTokens() {
             count = 0;
             int at = 0;
@@ -511,6 +503,7 @@ public final class GraphHouse {
                 at = characters[at] == ' ' ? at + 1 : readToken(at);
             }
             addToken(Token.END, length);
+            length = 0;
         }
 
         private int readToken(int at) {
@@ -559,6 +552,7 @@ public final class GraphHouse {
         private void addToken(Token token, int place) {
             tokens[count] = token;
             places[count] = place;
+            words[count] = values.longAt(count);
             count++;
         }
 
@@ -857,8 +851,7 @@ public final class GraphHouse {
             refused = false;
             faultKind = 0;
             faultPlace = 0;
-            at = -1;
-            advance();
+            at = 0;
         }
 
         private Token here() {
@@ -870,22 +863,24 @@ public final class GraphHouse {
         }
 
         private long wordHere() {
-            return tape.values.longAt(at);
+            return tape.words[at];
         }
 
         private void advance() {
-            at = Math.min(at + 1, tape.count - 1);
-            if (here() == Token.NOTHING) {
-                refuse(FAULT_NO_TOKEN);
+            if (at < tape.count - 1) {
+                at++;
             }
         }
 
-        /** Only the first FAULT of 1 to 3 counts; reading then goes on at END, where all that reads comes to its end. */
+        /**
+         * Nothing can stand in the place of a TOKEN but one, so what is no TOKEN comes here always. Only the first FAULT
+         * of 1 to 3 counts; reading then goes on at END, where all that reads comes to its end.
+         */
         private void refuse(int fault) {
             if (!refused) {
                 refused = true;
-                faultKind = fault;
-                faultPlace = placeHere();
+                faultKind = tape.tokens[at] == Token.NOTHING ? FAULT_NO_TOKEN : fault;
+                faultPlace = tape.places[at];
             }
             at = tape.count - 1;
         }
@@ -1296,7 +1291,7 @@ public final class GraphHouse {
         }
 
         private void nameColumn(Clause clause, Piece item, int token) {
-            item.word = tape.values.longAt(token);
+            item.word = tape.words[token];
             for (int i = clause.piecesFrom; i < pieceCount - 1; i++) {
                 if (pieces[i].word == item.word) {
                     blame(FAULT_NAME, tape.places[token]);
@@ -1378,7 +1373,15 @@ public final class GraphHouse {
                     advance();
                     break;
                 case NAME:
-                    readNamed();
+                    emit(Token.NAME, useName());
+                    advance();
+                    if (accept(Token.DOT)) {
+                        emit(Token.DOT, at);
+                        expect(Token.NAME);
+                    } else if (accept(Token.COLON)) {
+                        emit(Token.COLON, at);
+                        expect(Token.SORT);
+                    }
                     break;
                 case OPEN:
                     advance();
@@ -1403,18 +1406,6 @@ public final class GraphHouse {
                 default:
                     refuse(FAULT_TOKEN);
                     break;
-            }
-        }
-
-        private void readNamed() {
-            emit(Token.NAME, useName());
-            advance();
-            if (accept(Token.DOT)) {
-                emit(Token.DOT, at);
-                expect(Token.NAME);
-            } else if (accept(Token.COLON)) {
-                emit(Token.COLON, at);
-                expect(Token.SORT);
             }
         }
     }
@@ -1519,15 +1510,6 @@ public final class GraphHouse {
             return count;
         }
 
-        private static int findWord(long[] words, int from, int to, long word) {
-            for (int i = from; i < to; i++) {
-                if (words[i] == word) {
-                    return i;
-                }
-            }
-            return NONE;
-        }
-
         private static int countWords(long[] words, int from, int to) {
             int count = 0;
             for (int i = from; i < to; i++) {
@@ -1544,7 +1526,12 @@ public final class GraphHouse {
 
         /** Where the thing has this SORT; sort 0 finds room for one. */
         int findSort(int thing, long sort) {
-            return findWord(sorts, thing * LABELS, (thing + 1) * LABELS, sort);
+            for (int slot = thing * LABELS; slot < (thing + 1) * LABELS; slot++) {
+                if (sorts[slot] == sort) {
+                    return slot;
+                }
+            }
+            return NONE;
         }
 
         void putSort(int slot, long sort) {
@@ -1561,7 +1548,12 @@ public final class GraphHouse {
 
         /** Where the thing has a PROPERTY of this KEY; key 0 finds room for one. */
         int findKey(int thing, long key) {
-            return findWord(keys, thing * PROPERTIES, (thing + 1) * PROPERTIES, key);
+            for (int slot = thing * PROPERTIES; slot < (thing + 1) * PROPERTIES; slot++) {
+                if (keys[slot] == key) {
+                    return slot;
+                }
+            }
+            return NONE;
         }
 
         void putKey(int slot, long key) {
@@ -1648,40 +1640,11 @@ public final class GraphHouse {
                 Token op = statement.ops[i];
                 int arg = statement.args[i];
                 switch (op) {
-                    case NUMBER:
-                    case TEXT:
-                        stack.copy(top, statement.tape.values, arg);
-                        top++;
-                        break;
-                    case TRUE:
-                    case FALSE:
-                        stack.put(top, TRUTH, op == Token.TRUE ? 1 : 0);
-                        top++;
-                        break;
-                    case NULL:
-                        stack.put(top, NULL, 0);
-                        top++;
-                        break;
-                    case NAME:
-                        stack.copy(top, now, cellOf(arg));
-                        top++;
-                        break;
                     case DOT:
-                        lookUpProperty(top - 1, statement.tape.values.longAt(arg));
+                        lookUpProperty(top - 1, statement.tape.words[arg]);
                         break;
                     case COLON:
-                        lookUpSort(top - 1, statement.tape.values.longAt(arg));
-                        break;
-                    case IS:
-                        boolean isNull = stack.kindAt(top - 1) == NULL;
-                        stack.put(top - 1, TRUTH, isNull == (arg == 1) ? 1 : 0);
-                        break;
-                    case NOT:
-                        int truth = truthAt(top - 1);
-                        putTruth(top - 1, truth == EITHER ? EITHER : TRUE - truth);
-                        break;
-                    case NEGATE:
-                        negate(top - 1);
+                        lookUpSort(top - 1, statement.tape.words[arg]);
                         break;
                     case ID:
                     case TYPE:
@@ -1689,38 +1652,53 @@ public final class GraphHouse {
                     case DEGREE:
                         ask(op, top - 1);
                         break;
-                    default:
+                    case NOT:
+                    case NEGATE:
+                    case IS:
+                        turn(op, arg, top - 1);
+                        break;
+                    case AND:
+                    case OR:
+                    case XOR:
+                        top--;
+                        reason(op, top - 1, top);
+                        break;
+                    case EQUAL:
+                    case UNEQUAL:
+                    case LESS:
+                    case AT_MOST:
+                    case MORE:
+                    case AT_LEAST:
+                        top--;
+                        compare(op, top - 1, top);
+                        break;
+                    case PLUS:
+                    case MINUS:
+                    case STAR:
+                    case SLASH:
+                    case PERCENT:
+                    case COALESCE:
                         top--;
                         join(op, top - 1, top);
+                        break;
+                    default:
+                        push(op, arg);
                         break;
                 }
             }
         }
 
-        private void join(Token op, int left, int right) {
-            switch (op) {
-                case AND:
-                case OR:
-                case XOR:
-                    reason(op, left, right);
-                    break;
-                case EQUAL:
-                case UNEQUAL:
-                case LESS:
-                case AT_MOST:
-                case MORE:
-                case AT_LEAST:
-                    compare(op, left, right);
-                    break;
-                case COALESCE:
-                    if (stack.kindAt(left) == NULL) {
-                        stack.copy(left, stack, right);
-                    }
-                    break;
-                default:
-                    reckon(op, left, right);
-                    break;
+        private void push(Token op, int arg) {
+            if (op == Token.NAME) {
+                stack.copy(top, now, cellOf(arg));
+            } else if (op == Token.NUMBER || op == Token.TEXT) {
+                stack.copy(top, statement.tape.values, arg);
+            } else if (op == Token.NULL) {
+                stack.put(top, NULL, 0);
+            } else {
+                stack.put(top, TRUTH, op == Token.TRUE ? 1 : 0);
             }
+            top++;
         }
 
         private void lookUpProperty(int cell, long key) {
@@ -1832,6 +1810,18 @@ public final class GraphHouse {
             stack.put(left, TRUTH, holds ? 1 : 0);
         }
 
+        private void turn(Token op, int arg, int cell) {
+            if (op == Token.IS) {
+                boolean isNull = stack.kindAt(cell) == NULL;
+                stack.put(cell, TRUTH, isNull == (arg == 1) ? 1 : 0);
+            } else if (op == Token.NOT) {
+                int truth = truthAt(cell);
+                putTruth(cell, truth == EITHER ? EITHER : TRUE - truth);
+            } else {
+                negate(cell);
+            }
+        }
+
         private void negate(int cell) {
             int kind = stack.kindAt(cell);
             if (kind == NULL) {
@@ -1846,17 +1836,21 @@ public final class GraphHouse {
             stack.put(cell, NUMBER, -stack.longAt(cell));
         }
 
-        private void reckon(Token op, int left, int right) {
+        private void join(Token op, int left, int right) {
             int a = stack.kindAt(left);
             int b = stack.kindAt(right);
-            if (a == NULL || b == NULL) {
+            if (op == Token.COALESCE) {
+                if (a == NULL) {
+                    stack.copy(left, stack, right);
+                }
+            } else if (a == NULL || b == NULL) {
                 stack.put(left, NULL, 0);
             } else if (op == Token.PLUS && a == TEXT && b == TEXT) {
                 putTogether(left, right);
             } else if (a != NUMBER || b != NUMBER) {
                 fail(ERROR_KIND);
             } else {
-                stack.put(left, NUMBER, result(op, stack.longAt(left), stack.longAt(right)));
+                reckon(op, left, right);
             }
         }
 
@@ -1871,56 +1865,37 @@ public final class GraphHouse {
             }
         }
 
-        private long result(Token op, long a, long b) {
-            switch (op) {
-                case PLUS:
-                    return sum(a, b);
-                case MINUS:
-                    return difference(a, b);
-                case STAR:
-                    return product(a, b);
-                default:
-                    return quotient(op, a, b);
-            }
-        }
-
-        long sum(long a, long b) {
-            long sum = a + b;
-            if (((a ^ sum) & (b ^ sum)) < 0) {
-                fail(ERROR_BEYOND);
-            }
-            return sum;
-        }
-
-        private long difference(long a, long b) {
-            long difference = a - b;
-            if (((a ^ b) & (a ^ difference)) < 0) {
-                fail(ERROR_BEYOND);
-            }
-            return difference;
-        }
-
-        private long product(long a, long b) {
-            long product = a * b;
-            boolean turned = a == -1 && b == Long.MIN_VALUE;
-            if (turned || a != 0 && product / a != b) {
-                fail(ERROR_BEYOND);
-            }
-            return product;
-        }
-
-        private long quotient(Token op, long a, long b) {
-            if (b == 0) {
+        private void reckon(Token op, int left, int right) {
+            long a = stack.longAt(left);
+            long b = stack.longAt(right);
+            boolean divides = op == Token.SLASH || op == Token.PERCENT;
+            if (divides && b == 0) {
                 fail(ERROR_ZERO);
-                return 0;
+                return;
             }
-            if (op == Token.PERCENT) {
-                return a % b;
-            }
-            if (a == Long.MIN_VALUE && b == -1) {
+            if (isBeyond(op, a, b)) {
                 fail(ERROR_BEYOND);
             }
-            return a / b;
+            long result = op == Token.PLUS ? a + b
+                    : op == Token.MINUS ? a - b
+                    : op == Token.STAR ? a * b
+                    : op == Token.SLASH ? a / b : a % b;
+            stack.put(left, NUMBER, result);
+        }
+
+        /** Whether the result, wrapped round, is not the true one. */
+        static boolean isBeyond(Token op, long a, long b) {
+            boolean turned = a == Long.MIN_VALUE && b == -1;
+            if (op == Token.PLUS) {
+                return ((a ^ (a + b)) & (b ^ (a + b))) < 0;
+            }
+            if (op == Token.MINUS) {
+                return ((a ^ b) & (a ^ (a - b))) < 0;
+            }
+            if (op == Token.STAR) {
+                return turned || b != 0 && a * b / b != a;
+            }
+            return op == Token.SLASH && turned;
         }
     }
 
@@ -2383,10 +2358,7 @@ public final class GraphHouse {
             if (counts) {
                 groupRows.put(into, NUMBER, groupRows.longAt(into) + 1);
             } else if (kind == Token.SUM) {
-                if (taken.kindAt(from) != NUMBER) {
-                    machine.fail(ERROR_KIND);
-                }
-                groupRows.put(into, NUMBER, machine.sum(groupRows.longAt(into), taken.longAt(from)));
+                addTo(into, from);
             } else {
                 int order = taken.compare(from, groupRows, into);
                 boolean first = groupRows.kindAt(into) == NULL;
@@ -2394,6 +2366,18 @@ public final class GraphHouse {
                     groupRows.copy(into, taken, from);
                 }
             }
+        }
+
+        private void addTo(int into, int from) {
+            if (taken.kindAt(from) != NUMBER) {
+                machine.fail(ERROR_KIND);
+            }
+            long sum = machine.next.longAt(into);
+            long more = taken.longAt(from);
+            if (Machine.isBeyond(Token.PLUS, sum, more)) {
+                machine.fail(ERROR_BEYOND);
+            }
+            machine.next.put(into, NUMBER, sum + more);
         }
 
         private boolean isRepeated(int group, int column) {
@@ -2498,8 +2482,8 @@ public final class GraphHouse {
             gatherer = new Gatherer(statement, machine);
         }
 
-        /** Whether no ERROR came up. */
-        boolean perform() {
+        /** The ERROR that came up; 0 if none did. */
+        int perform() {
             machine.now.rows = 1;
             try {
                 for (clauseNumber = 0; clauseNumber < statement.clauseCount; clauseNumber++) {
@@ -2523,9 +2507,9 @@ public final class GraphHouse {
                             break;
                     }
                 }
-                return true;
+                return 0;
             } catch (ArithmeticException e) {
-                return false;
+                return machine.error;
             }
         }
 
@@ -2538,9 +2522,13 @@ public final class GraphHouse {
                     if (ends.kind != Token.OPEN) {
                         continue;
                     }
-                    int node = ends.flag ? makeNode(ends) : knownNode(ends);
+                    int node = ends.flag ? makeThing(0, NODES) : knownNode(ends);
+                    if (ends.flag) {
+                        furnish(node, ends);
+                    }
                     if (i > clause.partsFrom && statement.parts[i - 1].kind == Token.MINUS) {
-                        makeRelationship(statement.parts[i - 1], last, node);
+                        Piece link = statement.parts[i - 1];
+                        furnish(makeRelationship(link, last, node), link);
                     }
                     last = node;
                 }
@@ -2557,27 +2545,28 @@ public final class GraphHouse {
             return node;
         }
 
-        private int makeNode(Piece ends) {
-            int node = makeThing(0, NODES);
-            for (int s = ends.sortsFrom; s < ends.sortsTo; s++) {
-                putLabel(node, statement.pieces[s].word);
-            }
-            putProperties(node, ends);
-            if (ends.column != NONE) {
-                machine.now.put(machine.cellOf(ends.column), NODE, node);
-            }
-            return node;
+        private int makeRelationship(Piece link, int left, int right) {
+            int thing = makeThing(NODES, THINGS);
+            graph.starts[thing - NODES] = link.way == Piece.ALONG ? left : right;
+            graph.ends[thing - NODES] = link.way == Piece.ALONG ? right : left;
+            graph.putSort(graph.findSort(thing, 0), statement.pieces[link.sortsFrom].word);
+            return thing;
         }
 
-        private void makeRelationship(Piece link, int left, int right) {
-            int thing = makeThing(NODES, THINGS);
-            int r = thing - NODES;
-            graph.starts[r] = link.way == Piece.ALONG ? left : right;
-            graph.ends[r] = link.way == Piece.ALONG ? right : left;
-            graph.putSort(graph.findSort(thing, 0), statement.pieces[link.sortsFrom].word);
-            putProperties(thing, link);
-            if (link.column != NONE) {
-                machine.now.put(machine.cellOf(link.column), RELATIONSHIP, r);
+        /** Gives a new thing its LABELS (a RELATIONSHIP has its TYPE already, and keeps it), PROPERTIES and NAME. */
+        private void furnish(int thing, Piece part) {
+            for (int s = part.sortsFrom; s < part.sortsTo; s++) {
+                putLabel(thing, statement.pieces[s].word);
+            }
+            for (int p = part.propertiesFrom; p < part.propertiesTo; p++) {
+                machine.look(statement.pieces[p].from, statement.pieces[p].to);
+                if (machine.stack.kindAt(0) != NULL) {
+                    putProperty(thing, statement.pieces[p].word);
+                }
+            }
+            if (part.column != NONE) {
+                boolean isNode = thing < NODES;
+                machine.now.put(machine.cellOf(part.column), isNode ? NODE : RELATIONSHIP, isNode ? thing : thing - NODES);
             }
         }
 
@@ -2598,16 +2587,6 @@ public final class GraphHouse {
                 machine.fail(ERROR_LOG);
             }
             graph.changes++;
-        }
-
-        private void putProperties(int thing, Piece part) {
-            for (int p = part.propertiesFrom; p < part.propertiesTo; p++) {
-                Piece property = statement.pieces[p];
-                machine.look(property.from, property.to);
-                if (machine.stack.kindAt(0) != NULL) {
-                    putProperty(thing, property.word);
-                }
-            }
         }
 
         private void putLabel(int node, long label) {

@@ -1,0 +1,51 @@
+/** Promise 2: what goes to the tape, and what is refused without changing it. */
+public final class TypeTest {
+    public static void main(String[] args) {
+        orderOfBytes();
+        wrongInputs();
+        fullTape();
+        House.end();
+    }
+
+    private static void orderOfBytes() {
+        House h = new House("order of bytes");
+        h.due("type", h.house.type(0x52455455524E2031L, 8), true);
+        h.due("type", h.house.type('0', 1), true);
+        h.due("RETURN 10", h.ask(""), "10");
+        h.due("type, with more above the n lowest bytes", h.house.type(0x00FF7F5245545552L, 5), true);
+        h.due("type", h.house.type(0x4E2037L, 3), true);
+        h.due("RETURN 7", h.ask(""), "7");
+        h.due("type without the highest byte", h.house.type(0x5252455455524E20L, 7), true);
+        h.due("type", h.house.type(-0xC8L, 1), true);
+        h.due("RETURN 8", h.ask(""), "8");
+    }
+
+    private static void wrongInputs() {
+        House h = new House("wrong inputs");
+        h.type("RETURN ");
+        for (int n : new int[] {0, -1, 9, 100, Integer.MIN_VALUE, Integer.MAX_VALUE}) {
+            h.due("type n " + n, h.house.type(0x3131313131313131L, n), false);
+        }
+        h.due("byte 31", h.house.type(0x311FL, 2), false);
+        h.due("byte 127", h.house.type(0x7F31L, 2), false);
+        h.due("byte 128", h.house.type(0x80L, 1), false);
+        h.due("byte 255", h.house.type(-1L, 8), false);
+        h.due("byte 0", h.house.type(0x31L, 2), false);
+        h.due("byte 32", h.house.type(32, 1), true);
+        h.due("byte 126", h.house.type(126, 1), true);
+        h.due("only these two came to the tape", h.ask(""), "fault 1 at 8");
+    }
+
+    private static void fullTape() {
+        House h = new House("full tape");
+        h.type("RETURN 1" + " ".repeat(385));
+        h.due("seven more come to 400", h.house.type(0x20202020202020L, 7), true);
+        h.due("one more", h.house.type(' ', 1), false);
+        h.due("all of it", h.ask(""), "1");
+        h.type(" ".repeat(396));
+        h.due("five more", h.house.type(0x2020202020L, 5), false);
+        h.due("four more", h.house.type(0x20202020L, 4), true);
+        h.due("it ends too early", h.ask(""), "fault 2 at 400");
+        h.due("the tape is empty then", h.ask(""), "fault 2 at 0");
+    }
+}
