@@ -73,6 +73,13 @@ public final class CreateTest {
         h.due("CREATE (a)-[:T]->(b)-[:T]->(c),(d)", "done");
         h.due("MATCH (a) WHERE ID(a)=1 DETACH DELETE a CREATE (b)-[r:T]->(c) RETURN b,r,c", "N4,R2,N5");
         h.due("CREATE (b)-[r:T]->(c)-[s:T]->(b) RETURN b,c,r,s", "N1,N6,R0,R1");
+        House again = new House("numbers that are used again");
+        again.due("CREATE (a:A:B{k:1,j:2})-[r:T{w:1,v:2}]->(b)", "done");
+        again.due("MATCH (a:A) DETACH DELETE a", "done");
+        again.due("CREATE (a)-[r:S]->(b) RETURN a,r,b,a.k,a:A,r.w", "N0,R0,N2,null,false,null");
+        again.due("node 0", node(again, 0), "0 0 1 0");
+        again.due("relationship 0", relationship(again, 0), "0 2 0");
+        again.due("MATCH ()-[r:T]->() RETURN r", "done");
     }
 
     private static void wrongInputs() {

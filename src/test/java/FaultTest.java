@@ -110,8 +110,11 @@ public final class FaultTest {
             {"RETURN 1,2,3,4,5,6,7", "fault 2 at 19"},
             {"RETURN 1,2,3,4,5,6,", "fault 2 at 19"},
             {"RETURN 1,2,3,4,5,6,$", "fault 1 at 19"},
+            {"RETURN 1,2,3,4,5,6,LIMIT 1", "fault 2 at 19"},
             {"RETURN 1 AS a ORDER BY a,a,a DESC", "1"},
             {"RETURN 1 AS a ORDER BY a,a,a DESC,a", "fault 2 at 34"},
+            {"RETURN 1 AS a ORDER BY a,a,a,LIMIT 1", "fault 2 at 29"},
+            {"RETURN 1 AS a ORDER BY a,a,a,", "fault 2 at 29"},
         });
     }
 

@@ -47,6 +47,16 @@ public final class LimitTest {
             "error 1 in 4");
         h.due("MATCH (a) WHERE ID(a)<9 WITH a OPTIONAL MATCH (a)-[r]->(a) RETURN COUNT(*),COUNT(r)", "28,20");
         h.due("MATCH (a) WITH a LIMIT 9 MATCH (b) WHERE ID(b)=0 MATCH (b)-[r]->(b) RETURN COUNT(*)", "180");
+        h.due("MATCH (b)-[r]->(b),(a) WHERE ID(a)<1 OPTIONAL MATCH (c) WHERE ID(r)=0 RETURN COUNT(*)", "error 1 in 0");
+        h.due("MATCH (a) WITH a LIMIT 10 MATCH (b) WHERE ID(b)<18 OR ID(a)<1 WITH a,b OPTIONAL MATCH (a)-[r]->(a) "
+            + "WHERE ID(r)<1 AND ID(b)<1 RETURN COUNT(*)", "error 1 in 4");
+        h.due("MATCH (a) WITH a LIMIT 10 MATCH (b) WITH a,b LIMIT 181 WHERE ID(a)>0 OR ID(b)<2 OPTIONAL MATCH (a)-[r]->(a) "
+            + "WHERE ID(b)<1 RETURN COUNT(*)", "182");
+        h.due("MATCH (a) WITH a LIMIT 9 MATCH (b) OPTIONAL MATCH (a)-[r]->(a{z:1}) RETURN COUNT(*)", "180");
+        h.due("MATCH (a) WITH a LIMIT 10 MATCH (b) WITH a,b SKIP 19 OPTIONAL MATCH (a)-[r]->(a) WHERE ID(b)=19 "
+            + "RETURN COUNT(*)", "200");
+        h.due("MATCH (a) WITH a LIMIT 10 MATCH (b) WITH a,b SKIP 18 OPTIONAL MATCH (a)-[r]->(a) WHERE ID(b)=19 "
+            + "RETURN COUNT(*)", "error 1 in 4");
         h.due("MATCH (b)-[r]->(b) WITH b,r LIMIT 9 OPTIONAL MATCH (c) WHERE ID(r)<>0 OR ID(c)<0 RETURN COUNT(*)", "161");
     }
 

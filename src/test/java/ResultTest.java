@@ -86,6 +86,9 @@ public final class ResultTest {
         h.due("head(-1, 0)", h.house.head(-1, 0), -1);
         h.due("head(1, 7)", h.house.head(1, 7), (int) '5');
         h.due("head(0, 1)", h.house.head(0, 1), -1);
+        for (int i = 0; i < 8; i++) {
+            h.due("head(3, " + i + ")", h.house.head(3, i), -1);
+        }
         h.due("MATCH (a:Z) RETURN a AS none", "done");
         h.due("a head above no ROWS", head(h, 0), "none");
     }

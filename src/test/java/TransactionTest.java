@@ -44,6 +44,13 @@ public final class TransactionTest {
         h.due("state", h.state("012357"), "2 1 7 7 0 0");
         h.due("MATCH (a:A)-[r:T]->(b) RETURN a.k,r.w,b:B", "1,1,false");
         h.due("rollback again", h.house.rollback(), false);
+        h.house.begin();
+        h.due("MATCH ()-[r]->() DELETE r", "done");
+        h.due("MATCH (a:A) CREATE (b)-[r:S]->(a) RETURN b,r", "N2,R0");
+        h.due("relationship", h.house.relationship(0, 0) + " " + h.house.relationship(0, 1), "2 0");
+        h.house.rollback();
+        h.due("relationship", h.house.relationship(0, 0) + " " + h.house.relationship(0, 1), "0 1");
+        h.due("MATCH ()-[r]->() RETURN TYPE(r)", "'T'");
         h.due("commit", h.commit(), -1);
     }
 

@@ -47,5 +47,20 @@ public final class TypeTest {
         h.due("four more", h.house.type(0x20202020L, 4), true);
         h.due("it ends too early", h.ask(""), "fault 2 at 400");
         h.due("the tape is empty then", h.ask(""), "fault 2 at 0");
+        String[] ends = {"'", "'abc", "a", "A", "AB", "7", "<", ".", "1234567890123456789", "abcdefghi", "$"};
+        String[] faults = {"1", "1", "2", "2", "2", "2", "2", "2", "1", "1", "1"};
+        for (int i = 0; i < ends.length; i++) {
+            int place = 400 - ends[i].length();
+            h.due("a full tape with " + ends[i], h.ask("RETURN 1" + " ".repeat(place - 8) + ends[i]),
+                "fault " + faults[i] + " at " + (ends[i].equals("<") ? 400 : place));
+        }
+        h.due("as many ENDS and LINKS as there can be", h.ask("CREATE " + "()--".repeat(97) + "()"), "fault 5 at 9");
+        h.due("as many SORTS as there can be", h.ask("CREATE (" + ":A".repeat(195) + ")"), "done");
+        h.due("as many NAMES as there can be", h.ask("CREATE (a) DELETE a" + ",a".repeat(190)), "done");
+        h.due("as many ENDS as there can be", h.ask("CREATE " + "(),".repeat(130) + "()"), "error 6 in 0");
+        h.due("as many TOKENS as there can be", h.ask("(".repeat(400)), "fault 2 at 0");
+        h.due("as many that can stand there", h.ask("RETURN " + "1+".repeat(196) + "1"), "197");
+        h.due("one too early", h.ask("RETURN 1" + "+1".repeat(195) + "+ "), "fault 2 at 400");
+        h.due("as many signs as there can be", h.ask("RETURN 1" + "+1".repeat(196)), "197");
     }
 }
