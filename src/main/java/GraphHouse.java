@@ -1542,6 +1542,10 @@ public final class GraphHouse {
             return countWords(sorts, thing * LABELS, (thing + 1) * LABELS);
         }
 
+        void putType(int thing, long type) {
+            sorts[thing * LABELS] = type;
+        }
+
         long typeOf(int thing) {
             return sorts[thing * LABELS];
         }
@@ -1622,11 +1626,12 @@ public final class GraphHouse {
                 return;
             }
             int left = 0;
-            for (row = 0; row < now.rows; row++) {
+            for (int i = 0; i < now.rows; i++) {
+                row = i;
                 look(clause.whereFrom, clause.whereTo);
                 if (stack.kindAt(0) == TRUTH && stack.longAt(0) == 1) {
-                    now.copyRow(left, now, row);
-                    origins[left] = origins[row];
+                    now.copyRow(left, now, i);
+                    origins[left] = origins[i];
                     left++;
                 }
             }
@@ -2486,8 +2491,9 @@ public final class GraphHouse {
         int perform() {
             machine.now.rows = 1;
             try {
-                for (clauseNumber = 0; clauseNumber < statement.clauseCount; clauseNumber++) {
-                    Clause clause = statement.clauses[clauseNumber];
+                for (int i = 0; i < statement.clauseCount; i++) {
+                    Clause clause = statement.clauses[i];
+                    clauseNumber = i;
                     switch (clause.kind) {
                         case MATCH:
                             matcher.match(clause);
@@ -2549,7 +2555,7 @@ public final class GraphHouse {
             int thing = makeThing(NODES, THINGS);
             graph.starts[thing - NODES] = link.way == Piece.ALONG ? left : right;
             graph.ends[thing - NODES] = link.way == Piece.ALONG ? right : left;
-            graph.putSort(graph.findSort(thing, 0), statement.pieces[link.sortsFrom].word);
+            graph.putType(thing, statement.pieces[link.sortsFrom].word);
             return thing;
         }
 

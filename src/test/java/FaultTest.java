@@ -77,6 +77,8 @@ public final class FaultTest {
             {"MATCH (a) REMOVE a.k=1", "fault 2 at 20"},
             {"MATCH (a) DELETE a.k", "fault 2 at 18"},
             {"RETURN 1<2<3", "fault 2 at 10"},
+            {"RETURN 1<=", "fault 2 at 10"},
+            {"RETURN 1 < = 2", "fault 2 at 11"},
             {"RETURN TRUE AND 1<2=TRUE", "fault 2 at 19"},
             {"RETURN 1=1 IS NULL", "fault 2 at 11"},
             {"RETURN 1 IS NULL IS NULL", "fault 2 at 17"},

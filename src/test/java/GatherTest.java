@@ -73,6 +73,8 @@ public final class GatherTest {
         h.due("MATCH (a) RETURN DISTINCT a.k", "0|1|2");
         h.due("MATCH (a) RETURN DISTINCT a.k,a.t", "0,'a'|1,'b'|2,'a'|0,'b'|1,'a'|2,'b'|0,null");
         h.due("MATCH (a) RETURN DISTINCT a.z", "null");
+        h.due("MATCH (a) RETURN DISTINCT a.t", "'a'|'b'|null");
+        h.due("MATCH (a:Z) RETURN DISTINCT a", "done");
         h.due("MATCH (a) RETURN DISTINCT a.k<1", "true|false");
         h.due("MATCH (a) WITH DISTINCT a.t AS t RETURN COUNT(*)", "3");
         h.due("MATCH (a) RETURN DISTINCT a.k AS k ORDER BY k DESC LIMIT 2", "2|1");
