@@ -13,11 +13,11 @@ public final class ChangeTest {
         House h = new House("SET");
         h.due("CREATE (a:A{k:1})-[r:T]->(b)", "done");
         h.due("MATCH (a:A)-[r]->(b) SET a.k=a.k+1,a.j=a.k,b:B,r.w='x',b.k=NULL RETURN a.k,a.j,b:B,r.w,b.k", "2,2,true,'x',null");
-        h.due("writes", h.house.state(2), 6 + 5);
+        h.due("writes", h.state(2), 6 + 5);
         h.due("MATCH (a:A) SET a.k=2,a:A,a.z=NULL", "done");
-        h.due("nothing was changed", h.house.state(2), 11);
+        h.due("nothing was changed", h.state(2), 11);
         h.due("MATCH (a:A) SET a.k=NULL RETURN a.k", "null");
-        h.due("properties", h.house.node(0, 1), 1);
+        h.due("properties", h.node(0, 1), 1);
         h.due("MATCH (a:A) SET a.k=1=1 RETURN a.k", "true");
         h.due("MATCH (a:A) SET a.k=a", "error 2 in 1");
         h.due("MATCH (a:A)-[r]->() SET a.k=r", "error 2 in 1");
@@ -25,7 +25,7 @@ public final class ChangeTest {
         h.due("MATCH (a:A) SET a:E", "error 6 in 1");
         h.due("MATCH (a:A) REMOVE a:B SET a:E RETURN a:B,a:E", "false,true");
         h.due("MATCH (a:A) SET a.a=1,a.b=2,a.c=3,a.d=4", "done");
-        h.due("properties", h.house.node(0, 1), 6);
+        h.due("properties", h.node(0, 1), 6);
         h.due("MATCH (a:A) SET a.e=5", "error 6 in 1");
         h.due("MATCH (a:A) SET a.d=5,a.d=a.d+1,a.e=NULL RETURN a.d", "6");
         h.due("MATCH (a:A) SET a.d=9,a.d=1/0", "error 4 in 1");
@@ -37,10 +37,10 @@ public final class ChangeTest {
         House h = new House("REMOVE");
         h.due("CREATE (a:A:B{k:1,j:2})-[r:T{w:1}]->(b)", "done");
         h.due("MATCH (a:A)-[r]->(b) REMOVE a.k,a:B,r.w,b.k,b:B RETURN a.k,a.j,a:A,a:B,r.w", "null,2,true,false,null");
-        h.due("writes", h.house.state(2), 8 + 1 + 4);
-        h.due("node", h.house.node(0, 0) + " " + h.house.node(0, 1), "1 1");
+        h.due("writes", h.state(2), 8 + 1 + 4);
+        h.due("node", h.node(0, 0) + " " + h.node(0, 1), "1 1");
         h.due("MATCH (a:A) REMOVE a.z,a:Z", "done");
-        h.due("writes", h.house.state(2), 13);
+        h.due("writes", h.state(2), 13);
     }
 
     private static void wrongNames() {
@@ -64,10 +64,10 @@ public final class ChangeTest {
         h.due("MATCH (a:D) DELETE a,a RETURN a", "N3");
         h.due("MATCH (a:A)-[r]->(b) DELETE a,r RETURN a,r,b", "N0,R0,N1");
         h.due("state", h.state("01"), "2 2");
-        h.due("writes", h.house.state(2), 4 + 4 + 3 + 2 + 1 + 2 + 3);
+        h.due("writes", h.state(2), 4 + 4 + 3 + 2 + 1 + 2 + 3);
         h.due("MATCH (a:C) DETACH DELETE a", "done");
         h.due("state", h.state("01"), "1 0");
-        h.due("writes", h.house.state(2), 19 + 4);
+        h.due("writes", h.state(2), 19 + 4);
         h.due("MATCH (b:B),(x:X) DELETE b", "done");
         h.due("MATCH (b:B) OPTIONAL MATCH (b)-->(x) DELETE x,b", "done");
         h.due("state", h.state("01"), "0 0");
@@ -75,7 +75,7 @@ public final class ChangeTest {
         h.due("CREATE (a)-[:T]->(b) DELETE b,a", "error 7 in 1");
         h.due("CREATE (a)-[r:T]->(b) DELETE a,b,r RETURN a,b,r", "N0,N1,R0");
         h.due("CREATE (a)-[r:T]->(b) DETACH DELETE b DELETE a RETURN a,b,r", "N0,N1,R0");
-        h.due("writes", h.house.state(2), 23 + 2 + 7 + 7);
+        h.due("writes", h.state(2), 23 + 2 + 7 + 7);
     }
 
     private static void gone() {

@@ -9,30 +9,22 @@ public final class CreateTest {
         House.end();
     }
 
-    private static String node(House h, int n) {
-        return h.house.node(n, 0) + " " + h.house.node(n, 1) + " " + h.house.node(n, 2) + " " + h.house.node(n, 3);
-    }
-
-    private static String relationship(House h, int r) {
-        return h.house.relationship(r, 0) + " " + h.house.relationship(r, 1) + " " + h.house.relationship(r, 2);
-    }
-
     private static void things() {
         House h = new House("things");
         h.due("CREATE (a:A:B{k:1,j:'x'})-[r:T{w:5}]->(b)<-[s:S]-(c:C),(b)-[:T]->(b) RETURN a,r,b,s,c", "N0,R0,N1,R1,N2");
-        h.due("node 0", node(h, 0), "2 2 1 0");
-        h.due("node 1", node(h, 1), "0 0 1 3");
-        h.due("node 2", node(h, 2), "1 0 1 0");
-        h.due("node 3", node(h, 3), "-1 -1 -1 -1");
-        h.due("relationship 0", relationship(h, 0), "0 1 1");
-        h.due("relationship 1", relationship(h, 1), "2 1 0");
-        h.due("relationship 2", relationship(h, 2), "1 1 0");
-        h.due("relationship 3", relationship(h, 3), "-1 -1 -1");
+        h.due("node 0", h.node(0), "2 2 1 0");
+        h.due("node 1", h.node(1), "0 0 1 3");
+        h.due("node 2", h.node(2), "1 0 1 0");
+        h.due("node 3", h.node(3), "-1 -1 -1 -1");
+        h.due("relationship 0", h.relationship(0), "0 1 1");
+        h.due("relationship 1", h.relationship(1), "2 1 0");
+        h.due("relationship 2", h.relationship(2), "1 1 0");
+        h.due("relationship 3", h.relationship(3), "-1 -1 -1");
         h.due("MATCH ()-[r]->() RETURN TYPE(r)", "'T'|'T'|'S'");
         h.due("CREATE (a:A:A:A) RETURN a", "N3");
-        h.due("node 3", node(h, 3), "1 0 0 0");
+        h.due("node 3", h.node(3), "1 0 0 0");
         h.due("MATCH (a:A) CREATE (a)-[:U]->(b:New) RETURN a,b", "N0,N4|N3,N5");
-        h.due("node 0", node(h, 0), "2 2 2 0");
+        h.due("node 0", h.node(0), "2 2 2 0");
         h.due("MATCH (a:Z) CREATE (b)", "done");
         h.due("state", h.state("01"), "6 5");
     }
@@ -46,15 +38,15 @@ public final class CreateTest {
         h.due("CREATE (a)-[r:T]->(b) DELETE r WITH r CREATE (r)", "error 2 in 3");
         h.due("nothing of all that is left", h.state("012"), "0 0 0");
         h.due("CREATE (a),(b) CREATE (a)<-[:T]-(b) CREATE (a) RETURN DEGREE(a)", "1");
-        h.due("relationship 0", relationship(h, 0), "1 0 0");
+        h.due("relationship 0", h.relationship(0), "1 0 0");
     }
 
     private static void properties() {
         House h = new House("PROPERTIES");
         h.due("CREATE (a{k:1,j:NULL,k:2,t:TRUE}) RETURN a.k,a.j,a.t", "2,null,true");
-        h.due("CHANGES and END", h.house.state(2), 5);
+        h.due("CHANGES and END", h.state(2), 5);
         h.due("CREATE (a{k:1,k:NULL,k:1}) RETURN a.k", "1");
-        h.due("CHANGES and END", h.house.state(2), 8);
+        h.due("CHANGES and END", h.state(2), 8);
         h.due("MATCH (a{k:2}) CREATE (b{k:a})", "error 2 in 1");
         h.due("MATCH (a{k:2}) CREATE (b{k:a.k+1,j:a.t}) RETURN b,b.k,b.j", "N2,3,true");
         h.due("MATCH (a{k:2}) CREATE (a)-[r:T{d:DEGREE(a)}]->(b{d:DEGREE(a)}) RETURN r.d,b.d", "1,0");
@@ -77,8 +69,8 @@ public final class CreateTest {
         again.due("CREATE (a:A:B{k:1,j:2})-[r:T{w:1,v:2}]->(b)", "done");
         again.due("MATCH (a:A) DETACH DELETE a", "done");
         again.due("CREATE (a)-[r:S]->(b) RETURN a,r,b,a.k,a:A,r.w", "N0,R0,N2,null,false,null");
-        again.due("node 0", node(again, 0), "0 0 1 0");
-        again.due("relationship 0", relationship(again, 0), "0 2 0");
+        again.due("node 0", again.node(0), "0 0 1 0");
+        again.due("relationship 0", again.relationship(0), "0 2 0");
         again.due("MATCH ()-[r:T]->() RETURN r", "done");
     }
 
@@ -87,14 +79,14 @@ public final class CreateTest {
         h.due("CREATE (a)-[:T]->(b)", "done");
         int[] wrong = {-1, 64, 96, 160, Integer.MIN_VALUE, Integer.MAX_VALUE};
         for (int n : wrong) {
-            h.due("node(" + n + ", 0)", h.house.node(n, 0), -1);
-            h.due("relationship(" + n + ", 0)", h.house.relationship(n, 0), -1);
+            h.due("node(" + n + ", 0)", h.node(n, 0), -1);
+            h.due("relationship(" + n + ", 0)", h.relationship(n, 0), -1);
         }
-        h.due("node(0, 4)", h.house.node(0, 4), -1);
-        h.due("node(0, -1)", h.house.node(0, -1), -1);
-        h.due("relationship(0, 3)", h.house.relationship(0, 3), -1);
-        h.due("relationship(0, -1)", h.house.relationship(0, -1), -1);
-        h.due("node(63, 0)", h.house.node(63, 0), -1);
-        h.due("relationship(95, 0)", h.house.relationship(95, 0), -1);
+        h.due("node(0, 4)", h.node(0, 4), -1);
+        h.due("node(0, -1)", h.node(0, -1), -1);
+        h.due("relationship(0, 3)", h.relationship(0, 3), -1);
+        h.due("relationship(0, -1)", h.relationship(0, -1), -1);
+        h.due("node(63, 0)", h.node(63, 0), -1);
+        h.due("relationship(95, 0)", h.relationship(95, 0), -1);
     }
 }

@@ -246,17 +246,17 @@ public final class FaultTest {
     private static void answers() {
         House h = new House("answers of fault()");
         h.due("RETURN 1 1", "fault 2 at 9");
-        h.due("fault(2)", h.house.fault(2), 0);
-        h.due("fault(3)", h.house.fault(3), 0);
-        h.due("fault(4)", h.house.fault(4), -1);
-        h.due("fault(-1)", h.house.fault(-1), -1);
+        h.due("fault(2)", h.fault(2), 0);
+        h.due("fault(3)", h.fault(3), 0);
+        h.due("fault(4)", h.fault(4), -1);
+        h.due("fault(-1)", h.fault(-1), -1);
         h.due("WITH 1 AS a RETURN a/0", "error 4 in 1");
-        h.due("fault(0)", h.house.fault(0), 0);
-        h.due("fault(1)", h.house.fault(1), 0);
+        h.due("fault(0)", h.fault(0), 0);
+        h.due("fault(1)", h.fault(1), 0);
         h.due("RETURN 5", "5");
         for (int what = 0; what < 4; what++) {
-            h.due("fault(" + what + ")", h.house.fault(what), 0);
+            h.due("fault(" + what + ")", h.fault(what), 0);
         }
-        h.due("WORK of faults is none", h.house.state(6), 3);
+        h.due("WORK of faults is none", h.state(6), 3);
     }
 }

@@ -25,7 +25,7 @@ public final class GatherTest {
         h.due("RETURN 1,'a',TRUE,NULL", "1,'a',true,null");
         h.due("MATCH (a) RETURN a.k", "0|1|2|0|1|2|0");
         h.due("MATCH (a:B) RETURN a.k", "done");
-        h.due("columns of no ROWS", h.house.table(1), 1);
+        h.due("columns of no ROWS", h.table(1), 1);
         h.due("MATCH (a) RETURN 1/(2-a.k),a.k+a.t", "error 2 in 1");
         h.due("MATCH (a) RETURN 1/(2-a.k)", "error 4 in 1");
     }

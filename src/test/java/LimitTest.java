@@ -21,7 +21,7 @@ public final class LimitTest {
         h.due("CREATE ()", "done");
         h.due("MATCH (a),(b) RETURN COUNT(*)", "error 1 in 0");
         h.due("MATCH (a),(b) WHERE a=b RETURN COUNT(*)", "error 1 in 0");
-        h.due("WORK", h.house.state(6), 1 + 196 + 196 + 1 + 200 + 200);
+        h.due("WORK", h.state(6), 1 + 196 + 196 + 1 + 200 + 200);
         h.due("MATCH (a) WITH a LIMIT 13 MATCH (b) RETURN COUNT(*)", "195");
         h.due("MATCH (a) WITH a LIMIT 14 MATCH (b) RETURN COUNT(*)", "error 1 in 2");
         House exact = new House("200 ROWS");
@@ -66,7 +66,7 @@ public final class LimitTest {
         h.due(nodes(5), "error 6 in 0");
         h.due("state", h.state("023"), "60 61 61");
         h.due(nodes(4), "done");
-        h.due("node 63", h.house.node(63, 0), 0);
+        h.due("node 63", h.node(63, 0), 0);
         h.due("CREATE ()", "error 6 in 0");
         h.due("MATCH (a) WHERE ID(a)=7 DELETE a CREATE (b)", "error 6 in 2");
         h.due("MATCH (a) WHERE ID(a)=7 DELETE a", "done");
@@ -80,7 +80,7 @@ public final class LimitTest {
         h.due("MATCH (a),(b) CREATE (a)-[:T]->(b)", "error 6 in 1");
         h.due("state", h.state("01"), "8 64");
         h.due("MATCH (a),(b) WHERE ID(a)<4 CREATE (a)-[:S]->(b)", "done");
-        h.due("relationship 95", h.house.relationship(95, 0) + " " + h.house.relationship(95, 1), "3 7");
+        h.due("relationship 95", h.relationship(95, 0) + " " + h.relationship(95, 1), "3 7");
         h.due("MATCH (a) WITH a LIMIT 1 CREATE (a)-[:T]->(b)", "error 6 in 2");
         h.due("MATCH ()-[r:S]->() DELETE r WITH COUNT(*) AS n CREATE (a)-[r:T]->(b)", "error 6 in 3");
         h.due("degree", h.ask("MATCH (a) WHERE ID(a)=0 RETURN DEGREE(a)"), "" + (15 + 11));
@@ -90,12 +90,15 @@ public final class LimitTest {
     private static void work() {
         House h = new House("WORK");
         h.due(nodes(14), "done");
-        for (int i = 0; i < 51; i++) {
+        for (int i = 0; i < 12; i++) {
+            h.due("MATCH (a),(b) WITH 1 AS c WITH c WITH c WITH c WITH c WITH c RETURN COUNT(*)", "196");
+        }
+        for (int i = 0; i < 3; i++) {
             h.due("MATCH (a),(b) RETURN COUNT(*)", "196");
         }
-        h.due("WORK", h.house.state(6), 1 + 51 * 392);
+        h.due("WORK", h.state(6), 1 + 12 * 8 * 196 + 3 * 2 * 196);
         h.due("MATCH (a),(b) RETURN COUNT(*)", "error 10 in 0");
-        h.due("WORK", h.house.state(6), 20000);
+        h.due("WORK", h.state(6), 20000);
         h.due("RETURN 1", "error 10 in 0");
         h.due("CREATE ()", "error 10 in 0");
         h.due("MATCH (a:Z) RETURN 1", "done");
@@ -104,21 +107,23 @@ public final class LimitTest {
         h.due("OPTIONAL MATCH (a:Z) RETURN a", "error 10 in 1");
         h.due("RETURN 1 1", "fault 2 at 9");
         h.due("state", h.state("0236"), "14 15 15 20000");
-        h.due("recover", h.house.recover(), 1);
-        h.due("WORK stays", h.house.state(6), 20000);
+        h.due("recover", h.recover(), 1);
+        h.due("WORK stays", h.state(6), 20000);
         House two = new House("two at once");
         two.due(nodes(20), "done");
-        for (int i = 0; i < 49; i++) {
-            two.due("MATCH (a) WITH a LIMIT 9 MATCH (b) RETURN COUNT(*)", "180");
+        for (int i = 0; i < 15; i++) {
+            two.due("MATCH (a) WITH a LIMIT 10 MATCH (b) WITH 1 AS c WITH c WITH c WITH c RETURN COUNT(*)", "200");
         }
-        two.due("WORK", two.house.state(6), 1 + 49 * 400);
-        for (int i = 0; i < 4; i++) {
+        for (int i = 0; i < 2; i++) {
+            two.due("MATCH (a) WITH a LIMIT 10 MATCH (b) RETURN COUNT(*)", "200");
+        }
+        for (int i = 0; i < 7; i++) {
             two.due("MATCH (a) RETURN a LIMIT 1", "N0");
         }
         two.due("MATCH (a) WHERE ID(a)<19 RETURN 1 LIMIT 1", "1");
-        two.due("WORK", two.house.state(6), 19800);
+        two.due("WORK", two.state(6), 19800);
         two.due("MATCH (a),(b) RETURN 1", "error 1 in 0");
-        two.due("WORK", two.house.state(6), 20000);
+        two.due("WORK", two.state(6), 20000);
         two.due("MATCH (a),(b) RETURN 1", "error 10 in 0");
     }
 

@@ -146,7 +146,7 @@ public final class MatchTest {
         h.due("OPTIONAL MATCH (a:C) OPTIONAL MATCH (a)-->(b) RETURN a,b", "null,null");
         h.due("OPTIONAL MATCH (a:C) MATCH (a) RETURN a", "done");
         h.due("OPTIONAL MATCH p=SHORTEST (a{k:4})-[]-(b) RETURN p,a,b", "null,null,null");
-        h.due("WORK counts ways alone", h.house.state(6), 50);
+        h.due("WORK counts ways alone", h.state(6), 50);
     }
 
     private static void gone() {

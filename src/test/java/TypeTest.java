@@ -4,19 +4,21 @@ public final class TypeTest {
         orderOfBytes();
         wrongInputs();
         fullTape();
+        tokenAtTheEnd();
+        asManyAsThereCanBe();
         House.end();
     }
 
     private static void orderOfBytes() {
         House h = new House("order of bytes");
-        h.due("type", h.house.type(0x52455455524E2031L, 8), true);
-        h.due("type", h.house.type('0', 1), true);
+        h.due("type", h.type(0x52455455524E2031L, 8), true);
+        h.due("type", h.type('0', 1), true);
         h.due("RETURN 10", h.ask(""), "10");
-        h.due("type, with more above the n lowest bytes", h.house.type(0x00FF7F5245545552L, 5), true);
-        h.due("type", h.house.type(0x4E2037L, 3), true);
+        h.due("type, with more above the n lowest bytes", h.type(0x00FF7F5245545552L, 5), true);
+        h.due("type", h.type(0x4E2037L, 3), true);
         h.due("RETURN 7", h.ask(""), "7");
-        h.due("type without the highest byte", h.house.type(0x5252455455524E20L, 7), true);
-        h.due("type", h.house.type(-0xC8L, 1), true);
+        h.due("type without the highest byte", h.type(0x5252455455524E20L, 7), true);
+        h.due("type", h.type(-0xC8L, 1), true);
         h.due("RETURN 8", h.ask(""), "8");
     }
 
@@ -24,43 +26,50 @@ public final class TypeTest {
         House h = new House("wrong inputs");
         h.type("RETURN ");
         for (int n : new int[] {0, -1, 9, 100, Integer.MIN_VALUE, Integer.MAX_VALUE}) {
-            h.due("type n " + n, h.house.type(0x3131313131313131L, n), false);
+            h.due("type n " + n, h.type(0x3131313131313131L, n), false);
         }
-        h.due("byte 31", h.house.type(0x311FL, 2), false);
-        h.due("byte 127", h.house.type(0x7F31L, 2), false);
-        h.due("byte 128", h.house.type(0x80L, 1), false);
-        h.due("byte 255", h.house.type(-1L, 8), false);
-        h.due("byte 0", h.house.type(0x31L, 2), false);
-        h.due("byte 32", h.house.type(32, 1), true);
-        h.due("byte 126", h.house.type(126, 1), true);
+        h.due("byte 31", h.type(0x311FL, 2), false);
+        h.due("byte 127", h.type(0x7F31L, 2), false);
+        h.due("byte 128", h.type(0x80L, 1), false);
+        h.due("byte 255", h.type(-1L, 8), false);
+        h.due("byte 0", h.type(0x31L, 2), false);
+        h.due("byte 32", h.type(32, 1), true);
+        h.due("byte 126", h.type(126, 1), true);
         h.due("only these two came to the tape", h.ask(""), "fault 1 at 8");
     }
 
     private static void fullTape() {
         House h = new House("full tape");
         h.type("RETURN 1" + " ".repeat(385));
-        h.due("seven more come to 400", h.house.type(0x20202020202020L, 7), true);
-        h.due("one more", h.house.type(' ', 1), false);
+        h.due("seven more come to 400", h.type(0x20202020202020L, 7), true);
+        h.due("one more", h.type(' ', 1), false);
         h.due("all of it", h.ask(""), "1");
         h.type(" ".repeat(396));
-        h.due("five more", h.house.type(0x2020202020L, 5), false);
-        h.due("four more", h.house.type(0x20202020L, 4), true);
+        h.due("five more", h.type(0x2020202020L, 5), false);
+        h.due("four more", h.type(0x20202020L, 4), true);
         h.due("it ends too early", h.ask(""), "fault 2 at 400");
         h.due("the tape is empty then", h.ask(""), "fault 2 at 0");
+    }
+
+    private static void tokenAtTheEnd() {
         String[] ends = {"'", "'abc", "a", "A", "AB", "7", "<", ".", "1234567890123456789", "abcdefghi", "$"};
         String[] faults = {"1", "1", "2", "2", "2", "2", "2", "2", "1", "1", "1"};
         for (int i = 0; i < ends.length; i++) {
             int place = 400 - ends[i].length();
-            h.due("a full tape with " + ends[i], h.ask("RETURN 1" + " ".repeat(place - 8) + ends[i]),
+            new House("at the end of a full tape").due("RETURN 1" + " ".repeat(place - 8) + ends[i],
                 "fault " + faults[i] + " at " + (ends[i].equals("<") ? 400 : place));
         }
-        h.due("as many ENDS and LINKS as there can be", h.ask("CREATE " + "()--".repeat(97) + "()"), "fault 5 at 9");
-        h.due("as many SORTS as there can be", h.ask("CREATE (" + ":A".repeat(195) + ")"), "done");
-        h.due("as many NAMES as there can be", h.ask("CREATE (a) DELETE a" + ",a".repeat(190)), "done");
-        h.due("as many ENDS as there can be", h.ask("CREATE " + "(),".repeat(130) + "()"), "error 6 in 0");
-        h.due("as many TOKENS as there can be", h.ask("(".repeat(400)), "fault 2 at 0");
-        h.due("as many that can stand there", h.ask("RETURN " + "1+".repeat(196) + "1"), "197");
-        h.due("one too early", h.ask("RETURN 1" + "+1".repeat(195) + "+ "), "fault 2 at 400");
-        h.due("as many signs as there can be", h.ask("RETURN 1" + "+1".repeat(196)), "197");
+    }
+
+    private static void asManyAsThereCanBe() {
+        House h = new House("as many as there can be");
+        h.due("CREATE " + "()--".repeat(97) + "()", "fault 5 at 9");
+        h.due("CREATE (" + ":A".repeat(195) + ")", "done");
+        h.due("CREATE (a) DELETE a" + ",a".repeat(190), "done");
+        h.due("CREATE " + "(),".repeat(130) + "()", "error 6 in 0");
+        h.due("(".repeat(400), "fault 2 at 0");
+        h.due("RETURN " + "1+".repeat(196) + "1", "197");
+        h.due("RETURN 1" + "+1".repeat(195) + "+ ", "fault 2 at 400");
+        h.due("RETURN 1" + "+1".repeat(196), "197");
     }
 }
