@@ -154,6 +154,22 @@ final class House {
         }
     }
 
+    /** Runs one statement in a new house. */
+    static void dueAlone(String statement, String want) {
+        new House("alone").due(statement, want);
+    }
+
+    /** Runs one statement, which has a ^ (no part of it) ahead of the place of its FAULT, in a new house. */
+    static void dueFault(int kind, String marked) {
+        int place = marked.indexOf('^');
+        dueAlone(marked.substring(0, place) + marked.substring(place + 1), "fault " + kind + " at " + place);
+    }
+
+    /** A statement that makes so many NODES. */
+    static String nodes(int count) {
+        return "CREATE " + "(),".repeat(count - 1) + "()";
+    }
+
     /**
      * Runs a statement: "fault 2 at 7", "error 4 in 0", "off", or its rows as in "N0,R1,5,'a',true,null|..."
      * ("done" without any).
@@ -171,6 +187,12 @@ final class House {
         } catch (IllegalStateException e) {
             return "off";
         }
+    }
+
+    /** Runs a statement that has neither FAULT nor ERROR, and reads nothing of what it returned. */
+    int run(String statement) {
+        type(statement);
+        return counted().run();
     }
 
     private String rows(int rows, int columns) {
