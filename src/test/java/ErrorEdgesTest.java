@@ -23,6 +23,7 @@ public final class ErrorEdgesTest {
         clauseNumbers();
         wholeOrNotAtAll();
         wholeOrNotAtAllInTransaction();
+        lastThingsAsTheyWere();
         House.end();
     }
 
@@ -330,5 +331,41 @@ public final class ErrorEdgesTest {
             h.due("MATCH (a:A:B)-[r:T]->(b:B) RETURN a.k,a.j,a.z,a:C,r.w,DEGREE(b)", "1,'x',null,false,1,1");
             h.due("commit", h.commit(), 10);
         }
+    }
+
+    /** NODE 63 and RELATIONSHIP 95 come back, too, with all they have. */
+    private static void lastThingsAsTheyWere() {
+        House h = new House("the last things");
+        h.due(House.nodes(64), "done");
+        h.due("MATCH (a) WHERE ID(a)>=32 CREATE (a)-[:T]->(a)-[:T]->(a)-[:T]->(a)", "done");
+        String last = "MATCH (a)-[r]->(b) WHERE ID(r)=95 ";
+        h.due(last + "SET a:A,a:B,a:C,a:D,a.a=1,a.b=2,a.c=3,a.d=4,a.e=5,a.f='abcdefghijklmnopqrstuvwx'", "done");
+        h.due(last + "SET r.a=1,r.b=2,r.c=3,r.d=4,r.e=5,r.f='abcdefghijklmnopqrstuvwx'", "done");
+        String change = last + "SET a.a=9,a.f='x',r.a=9,r.f='x' REMOVE a:A,a:D,a.b,r.b ";
+        String gone = last + "DETACH DELETE a WITH 1 AS n CREATE (x:X)-[s:S]->(y:Y) ";
+        h.due(change + "RETURN 1/0", "error 4 in 3");
+        asItWas(h);
+        h.begin();
+        h.due(change, "done");
+        h.rollback();
+        asItWas(h);
+        h.begin();
+        h.due(last + "DETACH DELETE a", "done");
+        h.due("CREATE (x:X)-[s:S]->(x) RETURN x,s", "N63,R93");
+        h.due("recover", h.recover(), 4);
+        asItWas(h);
+        h.due("checkpoint", h.checkpoint(), 161);
+        h.cut(5);
+        h.due(change, "off");
+        h.due("recover", h.recover(), 0);
+        asItWas(h);
+        h.due(gone, "error 6 in 3");
+        asItWas(h);
+    }
+
+    private static void asItWas(House h) {
+        h.due("node and relationship", h.node(63) + " " + h.relationship(95), "4 6 3 3 63 63 6");
+        String text = "'abcdefghijklmnopqrstuvwx'";
+        h.due("MATCH (a)-[r]->(b) WHERE ID(r)=95 RETURN a.a,a.f=" + text + ",a:A AND a:D,r.b,r.f=" + text + ",r:T", "1,true,true,2,true,true");
     }
 }

@@ -152,6 +152,12 @@ public final class GatherEdgesTest {
         h.due("MATCH (a) RETURN a ORDER BY a.g", "N0|N2|N1|N3");
         h.due("MATCH (a) RETURN a ORDER BY a.g DESC", "N3|N1|N0|N2");
         h.due("MATCH (a) WITH a ORDER BY a DESC RETURN a ORDER BY a.g", "N2|N0|N1|N3");
+        House k = new House("ALIKE in three");
+        k.due("CREATE ({k:1}),({k:2}),({k:1}),({k:0})", "done");
+        k.due("MATCH (a) RETURN a ORDER BY a.k,a.k,a.k", "N3|N0|N2|N1");
+        k.due("MATCH (a) RETURN a ORDER BY a.k DESC,a.k DESC,a.k DESC", "N1|N0|N2|N3");
+        k.due("MATCH (a) RETURN a ORDER BY a.k,a.k", "N3|N0|N2|N1");
+        k.due("MATCH (a) RETURN a ORDER BY a.k", "N3|N0|N2|N1");
     }
 
     private static void orderTurnedRound() {

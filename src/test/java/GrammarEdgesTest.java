@@ -308,6 +308,16 @@ public final class GrammarEdgesTest {
         House.dueAlone("RETURN " + "(".repeat(9) + "1" + ")".repeat(9) + "+" + "(".repeat(9) + "1+1" + ")".repeat(9), "3");
         House.dueFault(3, "RETURN " + "(".repeat(9) + "1" + ")".repeat(9) + "+" + "(".repeat(9) + "1+(^1)" + ")".repeat(9));
         House.dueAlone("RETURN " + "1+".repeat(30) + "1", "31");
+        String nine = "(".repeat(9) + "^1=1" + ")".repeat(9);
+        String[] beside = {"-1+", "-1*", "-1=", "NOT TRUE AND ", "NOT TRUE OR ", "NOT TRUE XOR ", "NOT 1=1 AND ", "-1 IS NULL AND "};
+        for (String x : beside) {
+            String statement = "RETURN " + x + nine.replace("^", "");
+            new House(statement).due("a FAULT", new House("beside").ask(statement).startsWith("fault"), false);
+        }
+        String[] within = {"NOT ", "NOT 1=", "NOT 1+", "NOT 1*", "-"};
+        for (String x : within) {
+            House.dueFault(3, "RETURN " + x + nine);
+        }
     }
 
     private static void deepFunctions() {

@@ -25,6 +25,7 @@ public final class MatchEdgesTest {
         optionalOnes();
         optionalBehindWhere();
         optionalInOrder();
+        eightNames();
         House.end();
     }
 
@@ -295,5 +296,21 @@ public final class MatchEdgesTest {
         House h = house("OPTIONAL in order", "CREATE (a),(b),(c),(d),(d)-[:T]->(a),(b)-[:T]->(a),(b)-[:T]->(c)");
         h.due("MATCH (a) OPTIONAL MATCH (a)-->(b) RETURN a,b", "N0,null|N1,N0|N1,N2|N2,null|N3,N0");
         h.due("MATCH (a) WITH a ORDER BY a DESC OPTIONAL MATCH (a)-->(b) RETURN a,b", "N3,N0|N2,null|N1,N0|N1,N2|N0,null");
+    }
+
+    /** The seventh and eighth KNOWN NAME keep what they are, wherever their ROW goes. */
+    private static void eightNames() {
+        House h = house("eight NAMES", "CREATE (a)-[:T]->(b)-[:T]->(c)");
+        String eight = "MATCH (a)-[b]->(c)-[d]->(e) MATCH (f)-[g]->(h) ";
+        h.due(eight + "RETURN a,c,e,f,g,h", "N0,N1,N2,N0,R0,N1|N0,N1,N2,N1,R1,N2");
+        h.due(eight + "WHERE ID(g)=1 RETURN b,d,f,g,h", "R0,R1,N1,R1,N2");
+        h.due(eight + "WHERE ID(g)=0 RETURN b,d,f,g,h", "R0,R1,N0,R0,N1");
+        h.due(eight + "MATCH (h) RETURN g,h", "R0,N1|R1,N2");
+        h.due(eight + "OPTIONAL MATCH (h)-->(e) RETURN a,g,h", "N0,R0,N1|N0,R1,N2");
+        h.due(eight + "WITH h,g ORDER BY h DESC RETURN g,h", "R1,N2|R0,N1");
+        h.due("MATCH (a) OPTIONAL MATCH (b)-[c]->(d)-[e]->(f)-[g]->(h) RETURN a,b,c,f,g,h",
+            "N0,null,null,null,null,null|N1,null,null,null,null,null|N2,null,null,null,null,null");
+        h.due("CREATE (a),(b),(c),(d),(e),(f),(g),(h) MATCH (a) RETURN a,b,f,g,h", "N3,N4,N8,N9,N10");
+        h.due("CREATE (a),(b),(c),(d),(e),(f),(g),(h) SET g.k=7,h.k=8 REMOVE f.k RETURN g.k,h.k", "7,8");
     }
 }

@@ -71,5 +71,16 @@ public final class TypeTest {
         h.due("RETURN " + "1+".repeat(196) + "1", "197");
         h.due("RETURN 1" + "+1".repeat(195) + "+ ", "fault 2 at 400");
         h.due("RETURN 1" + "+1".repeat(196), "197");
+        House more = new House("again and again");
+        for (int i = 1; i < 7; i++) {
+            more.due("RETURN " + (i + "+").repeat(190) + i, "" + 191 * i);
+        }
+        House pieces = new House("as many LABELS and KEYS as there can be");
+        pieces.due("CREATE (:A{k:1}),(:A{k:2})", "done");
+        pieces.due("MATCH (a" + ":A".repeat(180) + "{k:2}) RETURN a", "N1");
+        pieces.due("MATCH (a{" + "k:1,".repeat(90) + "k:1}) RETURN a", "N0");
+        pieces.due("MATCH (a{" + "k:1,".repeat(90) + "k:2}) RETURN a", "done");
+        pieces.due("MATCH (a)-[:" + "T|".repeat(180) + "T]-(b) RETURN a", "done");
+        pieces.due("MATCH (a) SET a.k=1" + ",a.k=2".repeat(60) + ",a.k=3 RETURN a.k", "3|3");
     }
 }

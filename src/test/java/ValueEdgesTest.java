@@ -20,6 +20,8 @@ public final class ValueEdgesTest {
         nullOperands();
         functionKinds();
         comparisonKinds();
+        comparisons();
+        longTexts();
         namesOfNoThing();
         truthTables();
         bothSidesAreLookedAt();
@@ -238,6 +240,45 @@ public final class ValueEdgesTest {
         }
     }
 
+    private static void comparisons() {
+        String[][] pairs = {{"1", "2"}, {"-1", "0"}, {"9", "10"}, {"'a'", "'b'"}, {"''", "'a'"}, {"'a'", "'aa'"}, {"'B'", "'a'"}};
+        for (String[] pair : pairs) {
+            House.dueAlone("RETURN " + signs(pair[0], pair[1]), "false,true,true,true,false,false");
+            House.dueAlone("RETURN " + signs(pair[1], pair[0]), "false,true,false,false,true,true");
+            House.dueAlone("RETURN " + signs(pair[0], pair[0]), "true,false,false,true,false,true");
+        }
+    }
+
+    private static String signs(String a, String b) {
+        return a + "=" + b + "," + a + "<>" + b + "," + a + "<" + b + "," + a + "<=" + b + "," + a + ">" + b + "," + a + ">=" + b;
+    }
+
+    /** Texts that are the same but for one character, and what is reckoned from long ones. */
+    private static void longTexts() {
+        String text = "abcdefghijklmnopqrstuvwx";
+        for (int i = 0; i < 24; i++) {
+            String other = text.substring(0, i) + "~" + text.substring(i + 1);
+            House h = new House("character " + i);
+            h.due("CREATE (a{t:'" + text + "'}),(b{t:'" + other + "'})", "done");
+            h.due("MATCH (a) RETURN DISTINCT a.t", "'" + text + "'|'" + other + "'");
+            h.due("MATCH (a) RETURN COUNT(DISTINCT a.t)", "2");
+            h.due("MATCH (a) RETURN a.t,COUNT(*)", "'" + text + "',1|'" + other + "',1");
+            h.due("MATCH (a{t:'" + other + "'}) RETURN a", "N1");
+            h.due("MATCH (a) WHERE a.t='" + text + "' RETURN a", "N0");
+            h.due("MATCH (a) RETURN a.t<'" + other + "' AS b ORDER BY b", "false|true");
+            h.due("MATCH (a) SET a.t='" + text + "'", "done");
+            h.due("one CHANGE", h.state(2), 5 + 2);
+            h.due("SIZE", h.ask("MATCH (a) RETURN DISTINCT SIZE(a.t),SIZE(a.t)=24"), "24,true");
+        }
+        for (int size = 0; size <= 24; size++) {
+            String part = text.substring(0, size);
+            House.dueAlone("RETURN SIZE('" + part + "')=" + size + ",('" + part + "'='" + part + "')=TRUE,('" + part + "'<'') IS NULL",
+                "true,true,false");
+            House.dueAlone("CREATE (a),(b) SET a.s=SIZE('" + part + "'),b.s=" + size + " RETURN a.s=b.s", "true");
+            House.dueAlone("CREATE (a{n:SIZE('" + part + "')}) MATCH (a{n:" + size + "}) RETURN a", "N0");
+        }
+    }
+
     private static void namesOfNoThing() {
         String[] values = {"1", "'a'", "TRUE"};
         for (String value : values) {
@@ -305,6 +346,8 @@ public final class ValueEdgesTest {
         House.dueAlone("RETURN 1+2=3,2*2>3,1=2-1 AND 2<3", "true,true,true");
         House.dueAlone("RETURN 1+2*3,2*3+1,7-2-1,8/4/2,7%4%2,8/2*3", "7,7,4,1,1,12");
         House.dueAlone("RETURN -2*-3,-2+3,2--3,2*-3,- - 2,-7%4", "6,1,5,-6,2,-3");
+        House.dueAlone("WITH 461168601842738790*10+4 AS a RETURN -a*2,-a-a", "-9223372036854775808,-9223372036854775808");
+        House.dueAlone("WITH 461168601842738790*10+4 AS a RETURN -(a*2)", "error 3 in 1");
         House.dueAlone("RETURN (1+2)*3,-(1+2),NOT (TRUE AND FALSE)", "9,-3,true");
         House.dueAlone("RETURN 1+NULL IS NULL,(1=2) IS NOT NULL,(1<2)=TRUE", "true,true,true");
     }
