@@ -105,7 +105,7 @@ public final class ChangeEdgesTest {
     }
 
     private static void createdWithKnownNames() {
-        String[] values = {"NULL", "1", "'a'", "TRUE"};
+        String[] values = {"NULL", "1", "'a'", "TRUE", "999999999999999999", "'~~~~~~~~~~~~'"};
         for (String value : values) {
             House.dueAlone("WITH " + value + " AS x CREATE (x)", "error 2 in 1");
             House.dueAlone("WITH " + value + " AS x CREATE (a)-[:T]->(x)", "error 2 in 1");

@@ -351,8 +351,15 @@ public final class ErrorEdgesTest {
         asItWas(h);
         h.begin();
         h.due(last + "DETACH DELETE a", "done");
-        h.due("CREATE (x:X)-[s:S]->(x) RETURN x,s", "N63,R93");
+        h.due("MATCH (b) WHERE ID(b)=5 CREATE (x:X)-[:S]->(b)-[:S]->(x)-[s:S]->(b) RETURN x,s", "N63,R95");
+        h.due("relationship(95)", h.relationship(95), "63 5 0");
         h.due("recover", h.recover(), 4);
+        asItWas(h);
+        h.begin();
+        h.due(last + "DELETE r", "done");
+        h.due("MATCH (b) WHERE ID(b)=5 CREATE (b)-[s:S]->(b) RETURN s", "R95");
+        h.due("relationship(95)", h.relationship(95), "5 5 0");
+        h.rollback();
         asItWas(h);
         h.due("checkpoint", h.checkpoint(), 161);
         h.cut(5);

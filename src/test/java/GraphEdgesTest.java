@@ -10,6 +10,7 @@ public final class GraphEdgesTest {
         takenAwayInThisStatement();
         takenAwayInAFullGraph();
         takenAwayByAStatementWithAnError();
+        madeAnew();
         labelsThatAreMade();
         labelsThatAreSet();
         propertiesThatAreMade();
@@ -113,6 +114,21 @@ public final class GraphEdgesTest {
         h.due("CREATE (a)-[:T]->(b)", "done");
         h.due("MATCH (a) DETACH DELETE a RETURN 1/0", "error 4 in 2");
         h.due("CREATE (c)-[r:T]->(d) RETURN c,r,d", "N2,R1,N3");
+    }
+
+    /** A number that is used again has nothing of what the thing had that was taken away. */
+    private static void madeAnew() {
+        House h = new House("made anew");
+        String six = "{a:1,b:2,c:3,d:4,e:5,f:6}";
+        h.due("CREATE (a:A:B:C:D" + six + ")-[r:T" + six + "]->(b)", "done");
+        h.due("MATCH (a:A) DETACH DELETE a", "done");
+        h.due("CREATE (a)-[r:S]->(b) RETURN a,r,a:A,a:D,a.a,a.f", "N0,R0,false,false,null,null");
+        h.due("node(0)", h.node(0), "0 0 1 0");
+        h.due("relationship(0)", h.relationship(0), "0 2 0");
+        h.due("MATCH (a)-[r]->(b) RETURN r.a,r.f,r:T,r:S,TYPE(r)", "null,null,false,true,'S'");
+        h.due("room for six", h.ask("MATCH (a)-[r]->(b) SET a.u=1,a.v=2,a.w=3,a.x=4,a.y=5,a.z=6,r.u=1,r.v=2,r.w=3,r.x=4,r.y=5,r.z=6"),
+            "done");
+        h.due("and for four", h.ask("MATCH (a)-[r]->(b) SET a:E,a:F,a:G,a:H RETURN a:E,a:H,a.u,a.z,r.u,r.z"), "true,true,1,6,1,6");
     }
 
     private static void labelsThatAreMade() {

@@ -161,7 +161,7 @@ public final class MatchEdgesTest {
 
     private static void knownOfNoNode() {
         House h = house("KNOWN, but no NODE", "CREATE (a)-[:T]->(b)");
-        String[] values = {"NULL", "0", "'a'", "TRUE"};
+        String[] values = {"NULL", "0", "'a'", "TRUE", "999999999999999999", "'~~~~~~~~~~~~'", "-1"};
         for (String value : values) {
             h.due("WITH " + value + " AS x MATCH (x) RETURN x", "done");
             h.due("WITH " + value + " AS x MATCH (a)-->(x) RETURN x", "done");
@@ -183,6 +183,8 @@ public final class MatchEdgesTest {
             {gone + "MATCH (b:B) RETURN a,b", "N0,N1"},
             {gone + "WHERE FALSE MATCH (a) RETURN a", "done"},
             {gone + "MATCH (b) RETURN b", "N1|N2"},
+            {"MATCH (a:A) DELETE a WITH ID(a) AS x MATCH (x) RETURN x", "done"},
+            {"MATCH (a:A) DELETE a WITH NULL AS x MATCH (x) RETURN x", "done"},
             {"MATCH ()-[r]->() DELETE r WITH r MATCH (r) RETURN r", "error 8 in 3"},
             {"MATCH (b:B)-[r]->(c) DELETE r WITH b OPTIONAL MATCH (b)-->(c) RETURN b,c", "N1,null"},
             {"MATCH (b:B)-[r]->(c) DELETE r WITH b,c OPTIONAL MATCH p=SHORTEST (b)--(c) RETURN b,p", "N1,null"},

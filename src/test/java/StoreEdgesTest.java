@@ -7,6 +7,7 @@ public final class StoreEdgesTest {
         commitWrites();
         rollbackRefused();
         rollbackOfAll();
+        thingsOfATransaction();
         checkpointRefused();
         checkpointWrites();
         cutArguments();
@@ -136,6 +137,26 @@ public final class StoreEdgesTest {
         h.due("MATCH (a:A)-[r:T]->(b) RETURN a.k,a:B,r.w,b.j", "1,false,1,null");
         h.begin();
         h.due("CHANGES begin anew", h.state(7), 0);
+    }
+
+    /** node() and relationship() tell of the graph as the TRANSACTION under way has changed it. */
+    private static void thingsOfATransaction() {
+        House h = pair("things of a TRANSACTION");
+        h.begin();
+        h.due("MATCH (a:A)-[r]->(b) SET a:B,a:C,a.j=2,r.v=2,r.u=3 CREATE (a)-[:S]->(c{k:1})-[:S]->(a)", "done");
+        h.due("node(0)", h.node(0), "3 2 2 1");
+        h.due("node(2)", h.node(2), "0 1 1 1");
+        h.due("relationship(0)", h.relationship(0), "0 1 3");
+        h.due("relationship(2)", h.relationship(2), "2 0 0");
+        h.due("MATCH (a)-[r:T]->(b) DELETE r,b", "done");
+        h.due("node(1)", h.node(1), "-1 -1 -1 -1");
+        h.due("relationship(0)", h.relationship(0), "-1 -1 -1");
+        h.due("node(0)", h.node(0), "3 2 1 1");
+        h.due("MATCH (a:A) CREATE (x)-[r:U]->(a) RETURN x,r", "N1,R0");
+        h.due("relationship(0)", h.relationship(0), "1 0 0");
+        h.due("rollback", h.rollback(), true);
+        h.due("as it was", h.node(0) + " " + h.node(1) + " " + h.node(2), "1 1 1 0 0 0 0 1 -1 -1 -1 -1");
+        h.due("as it was", h.relationship(0) + " " + h.relationship(1) + " " + h.relationship(2), "0 1 1 -1 -1 -1 -1 -1 -1");
     }
 
     private static void checkpointRefused() {
