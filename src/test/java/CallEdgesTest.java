@@ -23,6 +23,7 @@ public final class CallEdgesTest {
         noMoreInAnyCase();
         nodes();
         relationships();
+        lastCalls();
         House.end();
     }
 
@@ -339,5 +340,20 @@ public final class CallEdgesTest {
         full.due("MATCH (a) CREATE (a)-[:T]->(a)-[:T]->(a)-[:T]->(a)-[:T]->(a)-[:T]->(a)-[:T]->(a)", "done");
         full.due("relationship(95)", full.relationship(95), "15 15 0");
         full.due("relationship(96)", full.relationship(96), "-1 -1 -1");
+    }
+
+    private static void lastCalls() {
+        House h = new House("the 512th call");
+        h.due("CREATE (:A{k:1})", "done");
+        for (int k = 2; h.callsLeft() > 30; k++) {
+            h.due("MATCH (a) SET a.k=" + k, "done");
+            h.due("MATCH (a) RETURN a.k", "" + k);
+        }
+        h.type("MATCH (a) RETURN a:A");
+        while (h.callsLeft() > 6) {
+            h.due("node(0)", h.node(0, 1), 1);
+        }
+        h.due("MATCH (a) RETURN a:A", h.ask(""), "true");
+        h.due("the last one", h.callsLeft() + " " + h.state(0), "1 1");
     }
 }

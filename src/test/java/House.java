@@ -42,6 +42,11 @@ final class House {
         return house;
     }
 
+    /** How many calls are left that have to be answered. */
+    int callsLeft() {
+        return MOST_CALLS - calls;
+    }
+
     boolean type(long word, int n) {
         return counted().type(word, n);
     }

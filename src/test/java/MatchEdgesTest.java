@@ -192,7 +192,7 @@ public final class MatchEdgesTest {
     }
 
     private static void chainLengths() {
-        House h = house("chains", "CREATE (a)-[:T]->(b)-[:T]->(c)-[:T]->(d)-[:T]->(e)");
+        House h = house("chains", "CREATE (a:S)-[:T]->(b)-[:T]->(c)-[:T]->(d)-[:T]->(e:E)");
         h.due("MATCH (a)-[*1]->(b) RETURN a,b", "N0,N1|N1,N2|N2,N3|N3,N4");
         h.due("MATCH (a)-[*2]->(b) RETURN a,b", "N0,N2|N1,N3|N2,N4");
         h.due("MATCH (a)-[*3]->(b) RETURN a,b", "N0,N3|N1,N4");
@@ -201,6 +201,13 @@ public final class MatchEdgesTest {
         h.due("MATCH (a)<-[*3]-(b) RETURN a,b", "N3,N0|N4,N1");
         h.due("MATCH (a)-[*3]-(b) WHERE ID(a)=2 RETURN b", "done");
         h.due("MATCH (a)-[*2]-(b) WHERE ID(a)=2 RETURN b", "N0|N4");
+        h.due("to one alone", h.ask("MATCH (a)-[*1..3]->(b:E) RETURN a"), "N1|N2|N3");
+        h.due("MATCH (a)-[*2..3]->(b:E) RETURN a", "N1|N2");
+        h.due("MATCH (a)<-[*1..3]-(b:S) RETURN a", "N1|N2|N3");
+        h.due("MATCH (a)-[*2]->(b:E) RETURN a", "N2");
+        h.due("to a KNOWN one", h.ask("MATCH (b:E) MATCH (a)-[*1..3]-(b) RETURN a"), "N1|N2|N3");
+        h.due("and on", h.ask("MATCH (a)-[*1..2]->(b)-[r]->(c:E) RETURN a,b"), "N1,N3|N2,N3");
+        h.due("MATCH (a:S)-[r]->(b)-[*1..2]->(c) RETURN c", "N2|N3");
     }
 
     private static void chainsInOrder() {
